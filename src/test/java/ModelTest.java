@@ -4,7 +4,7 @@ import java.util.function.LongSupplier;
 
 /** Long runs of calls, the same ones in every run, on the class and on the model. */
 public final class ModelTest {
-    private static final int GAMES = 400;
+    private static final int GAMES = 300;
     private static final int CALLS = 300;
 
     private long seed;
@@ -51,7 +51,7 @@ public final class ModelTest {
         for (int call = 0; call < CALLS; call++) {
             String told = step();
             calls.add(told);
-            if (told.contains(" BUT ") || call % 5 == 0 && !looksSame()) {
+            if (told.contains(" BUT ") || call % 10 == 0 && !looksSame()) {
                 System.out.println("game " + game + ": " + calls.subList(Math.max(0, calls.size() - 20), calls.size()));
                 return false;
             }
