@@ -173,7 +173,7 @@ public final class Kickroom {
             throw new IllegalStateException("the well is closed, there were 60 tests, or there is no casing");
         }
         boolean isPassed = pressure <= (what == VALVE ? well.valveStrength : cement);
-        tests.record(what, pressure, isPassed, well.minutes);
+        tests.keep(what, pressure, isPassed, well.minutes);
         if (what == VALVE) {
             well.hasBrokenSinceTest = false;
         }
@@ -573,20 +573,16 @@ public final class Kickroom {
                 return false;
             }
             int barrels = Math.min(40, 1 + under * rock.rateAt(depth) / 10000);
-            if (rock.bearsGasAt(depth)) {
-                takeGas(barrels);
-            } else {
+            if (!rock.bearsGasAt(depth)) {
                 liquid += Math.min(barrels, depth - gas - liquid);
+                return true;
             }
-            return true;
-        }
-
-        private void takeGas(int barrels) {
             if (!hasGas()) {
                 place = depth;
             }
             charge += (long) barrels * Math.max(1, bottom());
             measureGas();
+            return true;
         }
 
         private void loseAtShoe() {
@@ -617,7 +613,7 @@ public final class Kickroom {
             latestOfCement = NONE;
         }
 
-        private void record(int what, int pressure, boolean isPassed, int minute) {
+        private void keep(int what, int pressure, boolean isPassed, int minute) {
             write(whats, count, what);
             write(pressures, count, pressure);
             write(passes, count, isPassed ? 1 : 0);

@@ -79,6 +79,9 @@ public final class AskTest {
         Check.badState("equivalent() without a casing", none, none::equivalent);
         none.casing(5);
         Check.due("110", none.equivalent(), 110);
+        Kickroom one = Rooms.drilled(1);
+        one.casing(5);
+        Check.due("shoe of 1", one.equivalent(), 110);
         Kickroom seven = Rooms.drilled(7);
         seven.casing(5);
         seven.mud(113);
@@ -109,6 +112,11 @@ public final class AskTest {
         Kickroom kicked = Rooms.kicked();
         Check.due("ahead(1)", kicked.ahead(1), 42);
         Check.due("ahead(13)", kicked.ahead(13), 21);
+        Kickroom pumped = Rooms.kicked();
+        pumped.close();
+        Check.due("ahead(1), gas", pumped.ahead(1), 21);
+        pumped.pump(6, 300);
+        Check.due("ahead(1), gas that is pumped out", pumped.ahead(1), 0);
         for (int wrong : new int[] {0, -1, 2001, Integer.MAX_VALUE, Integer.MIN_VALUE}) {
             Check.badArgument("ahead(" + wrong + ")", kicked, () -> kicked.ahead(wrong));
         }

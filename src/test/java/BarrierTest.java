@@ -201,6 +201,10 @@ public final class BarrierTest {
         Check.due("a test of the valve is none of it", room.barriers(), 3);
         room.test(Kickroom.CEMENT, 10000);
         Check.due("tested since", room.barriers(), 7);
+        Kickroom shallow = Rooms.drilled(1);
+        shallow.casing(1);
+        shallow.test(Kickroom.CEMENT, 1000);
+        Check.due("a shoe of 1", shallow.barriers(), 7);
     }
 
     private static void promise16Bars() {

@@ -6,6 +6,8 @@ public final class MinuteTest {
         promise4DrillToTheEnd();
         promise4DrillLooksOnce();
         promise5PassOpen();
+        promise5PassLeastInflow();
+        promise5PassChargeTimesOne();
         promise5PassWithoutBottom();
         promise5PassLiquid();
         promise5PassLosesAtShoe();
@@ -103,7 +105,39 @@ public final class MinuteTest {
         Check.due("vented", room.of(8), volume);
         // the old gas is gone, and 21 barrels come in as at first
         facts("anew", room, 21, 101, 0);
+        room.pass(12);
+        long second = room.of(5);
+        room.pass(1);
+        Check.due("vented twice", room.of(8), volume + second);
         Check.due("lost", room.of(9), 0);
+    }
+
+    private static void promise5PassLeastInflow() {
+        Kickroom liquid = Rooms.ready();
+        liquid.layer(0, 101, 180, 1000, false);
+        liquid.mud(100);
+        // the pore is 101 at 10 metres, and 100 the column
+        Check.due("one above the other", liquid.drill(20), 10);
+        Check.due("liquid", liquid.of(7), 1);
+        Check.due("bars()", liquid.bars(), 3);
+        Kickroom gas = Rooms.ready();
+        gas.layer(0, 10, 180, 0, true);
+        gas.mud(0);
+        Check.due("gas of the charge 1", gas.drill(20), 1);
+        facts("charge 1", gas, 1, 1, 0);
+        Check.due("bars()", gas.bars(), 3);
+    }
+
+    private static void promise5PassChargeTimesOne() {
+        Kickroom room = Rooms.ready();
+        room.layer(0, 100, 180, 1000, true);
+        room.drill(100);
+        room.mud(0);
+        room.pass(12);
+        room.mud(120);
+        // 12 times 40 barrels came in, times 1; the pressure is 48 at 4 metres
+        Check.due("pass(1)", room.pass(1), 10);
+        facts("times 1", room, 10, 4, 0);
     }
 
     private static void promise5PassWithoutBottom() {
@@ -161,6 +195,11 @@ public final class MinuteTest {
         Check.due("lost in drilling", room.of(9), 25);
         Check.due("ahead() loses nothing", room.ahead(100), 0);
         Check.due("lost", room.of(9), 25);
+        Kickroom shallow = Rooms.drilled(1);
+        shallow.casing(1);
+        shallow.mud(190);
+        shallow.pass(1);
+        Check.due("lost at a shoe of 1", shallow.of(9), 5);
     }
 
     private static void promise5PassFootUnderGas() {

@@ -37,12 +37,16 @@ public final class RockTest {
         firstRateAndKind();
     }
 
-    /** At 100 metres of mud of 0 the pore of 1000 brings 1 + 1000 * 10 / 10000 barrels of liquid. */
+    /** At 999 and 1000 metres of mud of 0 the pores of 9990 and 10000 bring 1 + 9 and 1 + 10 barrels of liquid. */
     private static void firstRateAndKind() {
-        Kickroom room = Rooms.drilled(100);
+        Kickroom room = Rooms.drilled(999);
         room.mud(0);
-        Check.due("first rate", room.pass(1), 2);
-        Check.due("first kind", room.of(7), 2);
+        Check.due("first rate at 999", room.ahead(1), 10);
+        room.mud(110);
+        room.drill(1);
+        room.mud(0);
+        Check.due("first rate at 1000", room.pass(1), 11);
+        Check.due("first kind", room.of(7), 11);
     }
 
     private static void promise2Layer() {
@@ -72,10 +76,20 @@ public final class RockTest {
         Check.due("rate 193", inflowAt(193), 39);
         Check.due("rate 194", inflowAt(194), 40);
         Check.due("rate 1000", inflowAt(1000), 40);
+        // under mud of 210 it is 909 above: 9999 and 10908 are divided by 10000
+        Check.due("rate 11, heavier mud", inflowUnder210(11), 1);
+        Check.due("rate 12, heavier mud", inflowUnder210(12), 2);
     }
 
     private static long inflowAt(int rate) {
         Kickroom room = Rooms.overKick(rate, true);
+        room.drill(1);
+        return room.of(5);
+    }
+
+    private static long inflowUnder210(int rate) {
+        Kickroom room = Rooms.overKick(rate, true);
+        room.mud(210);
         room.drill(1);
         return room.of(5);
     }
@@ -181,8 +195,14 @@ public final class RockTest {
         casings(room, 401, 4);
         casings(room, 600, 4);
         casings(room, 5000, 4);
+        room.layer(3, 124, 150, 10, false);
+        casings(room, 301, 2);
+        room.layer(2, 121, 122, 10, false);
+        casings(room, 301, 3);
+        room.layer(2, 121, 140, 10, false);
+        casings(room, 401, 2);
         room.layer(20, 151, 150, 10, false);
-        casings(room, 2000, 4);
+        casings(room, 2000, 2);
         casings(room, 2001, Kickroom.NONE);
         casings(room, 5000, Kickroom.NONE);
         for (int layer = 0; layer < 50; layer++) {
