@@ -102,7 +102,10 @@ public final class ModelTest {
     }
 
     private int weight() {
-        return chance(3) ? draw(2) * 302 - 1 : chance(15) ? between(0, 300) : chance(30) ? killWeight() : between(90, 140);
+        if (chance(3)) {
+            return draw(2) * 302 - 1;
+        }
+        return chance(15) ? between(0, 300) : chance(30) ? killWeight() : between(90, 140);
     }
 
     private int killWeight() {
