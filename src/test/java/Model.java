@@ -311,7 +311,26 @@ final class Model {
                 : depth == 5000 ? 5 : 0;
     }
 
-    private long killWeight() {
+    long pressure(int what) {
+        argument(what >= 0 && what <= 5);
+        return new long[] {bottom(), pore(depth), foot(), breaks(shoe), choke, charge > 0 ? gasPressure() : 0}[what];
+    }
+
+    long of(int what) {
+        argument(what >= 0 && what <= 11);
+        return new long[] {depth, shoe, weight, open ? 0 : 1, minutes, gas, charge > 0 ? place : -1,
+            liquid, vented, lost, pumped, cement}[what];
+    }
+
+    int ofTest(int test, int what) {
+        index(test >= 0 && test < trials.size());
+        argument(what >= 0 && what <= 3);
+        Trial t = trials.get(test);
+        return new int[] {t.what, t.pressure, t.passed ? 1 : 0, t.minute}[what];
+    }
+
+    long killWeight() {
+        state(depth > 0);
         long w = 0;
         while (w * depth / 10 < pore(depth)) {
             w++;
@@ -319,13 +338,23 @@ final class Model {
         return w;
     }
 
-    private long casings(int to) {
+    int killWeightOr110() {
+        return depth > 0 ? (int) killWeight() : 110;
+    }
+
+    float equivalent() {
+        state(shoe > 0);
+        return (float) (10 * foot()) / (float) shoe;
+    }
+
+    long casings(int to) {
+        argument(to >= 1 && to <= 5000);
         long[] least = new long[51];
         int count = (to + 99) / 100;
         for (int end = 1; end <= count; end++) {
             least[end] = Long.MAX_VALUE;
             for (int begin = 0; begin < end; begin++) {
-                if (least[begin] != Long.MAX_VALUE && window(begin, end, 0) <= window(begin, end, 1)) {
+                if (least[begin] != Long.MAX_VALUE && best(begin, end, 0) <= best(begin, end, 1)) {
                     least[end] = Math.min(least[end], least[begin] + 1);
                 }
             }
@@ -333,7 +362,7 @@ final class Model {
         return least[count] == Long.MAX_VALUE ? -1 : least[count];
     }
 
-    private long window(int begin, int end, int what) {
+    private long best(int begin, int end, int what) {
         long best = layers[begin][what];
         for (int k = begin; k < end; k++) {
             best = what == 0 ? Math.max(best, layers[k][0]) : Math.min(best, layers[k][1]);
@@ -343,10 +372,10 @@ final class Model {
 
     long window(int from, int to, boolean isHigh) {
         argument(from >= 0 && from <= 4999 && to > from && to <= 5000);
-        return window(from / 100, (to + 99) / 100, isHigh ? 1 : 0);
+        return best(from / 100, (to + 99) / 100, isHigh ? 1 : 0);
     }
 
-    private long ahead(int count) {
+    long ahead(int count) {
         Model copy = new Model();
         System.arraycopy(layers, 0, copy.layers, 0, 50);
         copy.depth = depth;
@@ -360,42 +389,5 @@ final class Model {
         copy.liquid = liquid;
         copy.valve = valve;
         return copy.pass(count);
-    }
-
-    /** As Check.look() puts it. */
-    List<String> look() {
-        List<String> all = new ArrayList<>();
-        long[] pressures = {bottom(), pore(depth), foot(), breaks(shoe), choke, charge > 0 ? gasPressure() : 0};
-        for (int what = 0; what < pressures.length; what++) {
-            all.add("pressure(" + what + ")=" + pressures[what]);
-        }
-        long[] facts = {depth, shoe, weight, open ? 0 : 1, minutes, gas, charge > 0 ? place : -1,
-            liquid, vented, lost, pumped, cement};
-        for (int what = 0; what < facts.length; what++) {
-            all.add("of(" + what + ")=" + facts[what]);
-        }
-        all.add("barriers()=" + barriers());
-        all.add("bars()=" + bars());
-        if (depth > 0) {
-            all.add("killWeight()=" + killWeight());
-        }
-        if (shoe > 0) {
-            all.add("equivalent()=" + (float) (10 * foot()) / (float) shoe);
-        }
-        for (int from = 0; from < 5000; from += 100) {
-            all.add("window(" + from + ")=" + window(from, from + 100, false)
-                    + ".." + window(from, from + 100, true));
-            all.add("casings(" + (from + 1) + ")=" + casings(from + 1) + "=" + casings(from + 1));
-        }
-        for (int count = 1; count <= 64; count *= 4) {
-            all.add("ahead(" + count + ")=" + ahead(count));
-        }
-        StringBuilder tests = new StringBuilder();
-        for (Trial t : trials) {
-            tests.append(' ').append(t.what).append('/').append(t.pressure).append('/').append(t.passed ? 1 : 0)
-                    .append('/').append(t.minute);
-        }
-        all.add("tests=" + tests);
-        return all;
     }
 }
