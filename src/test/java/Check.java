@@ -60,9 +60,14 @@ final class Check {
     /** The call must throw just this exception; then its object must answer all that a twin without it answers. */
     private static void refused(String call, Class<?> want, Supplier<Kickroom> way, Consumer<Kickroom> body) {
         Kickroom room = way.get();
+        thrown(call, want, () -> body.accept(room));
+        due(call + ", refused, then", Probe.played(room), Probe.played(way.get()));
+    }
+
+    static void thrown(String call, Class<?> want, Runnable body) {
         Class<?> got = null;
         try {
-            body.accept(room);
+            body.run();
         } catch (RuntimeException e) {
             got = e.getClass();
         }
@@ -70,7 +75,6 @@ final class Check {
         if (got != want) {
             wrong(call + " threw " + got + ", due is " + want);
         }
-        due(call + ", refused, then", Probe.played(room), Probe.played(way.get()));
     }
 
     static void finish() {
